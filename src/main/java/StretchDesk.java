@@ -16,6 +16,12 @@ public final class StretchDesk {
     private static final int FLOAT = 2;
     private static final int DOUBLE = 3;
 
+    private static final int LONG_BITS = 64;
+    private static final long LEAST_INT = -0x80000000L;
+    private static final long GREATEST_INT = 0x7FFFFFFFL;
+    private static final long LEAST_LONG = 0x8000000000000000L;
+    private static final long GREATEST_LONG = 0x7FFFFFFFFFFFFFFFL;
+
     private static final int HULL = 0;
     private static final int MEET = 1;
     private static final int SIZE = 2;
@@ -61,7 +67,7 @@ public final class StretchDesk {
         long from = Numbers.told(sort, low);
         long upTo = Numbers.told(sort, high);
         int refusal = refusalOfRange(slot, sort, from, upTo);
-        return noted(refusal < 0 ? refusal : putFitting(slot, sort, from, upTo));
+        return noted(refusal < 0 ? refusal : put(slot, sort, from, upTo));
     }
 
     public int clear(int slot) {
@@ -364,7 +370,7 @@ public final class StretchDesk {
     }
 
     private int putOrdered(int to, int sort, long one, long other) {
-        return putFitting(to, sort, Numbers.lesser(sort, one, other), Numbers.greater(sort, one, other));
+        return Numbers.isLess(sort, other, one) ? put(to, sort, other, one) : put(to, sort, one, other);
     }
 
     private int putFitting(int to, int sort, long low, long high) {
@@ -372,6 +378,10 @@ public final class StretchDesk {
             sorts[to] = NONE;
             return 0;
         }
+        return put(to, sort, low, high);
+    }
+
+    private int put(int to, int sort, long low, long high) {
         sorts[to] = sort;
         lows[to] = low;
         highs[to] = high;
@@ -459,24 +469,24 @@ public final class StretchDesk {
             return sort == FLOAT ? 23 : 52;
         }
 
-        static int bias(int sort) {
-            return sort == FLOAT ? 127 : 1023;
-        }
-
         static int leastPower(int sort) {
-            return 1 - bias(sort) - fractionBits(sort);
+            return sort == FLOAT ? -149 : -1074;
         }
 
         static long unsignedMask(int sort) {
-            return sort == FLOAT ? Integer.MAX_VALUE : Long.MAX_VALUE;
+            return sort == FLOAT ? GREATEST_INT : GREATEST_LONG;
         }
 
         static long infinity(int sort) {
-            return (2L * bias(sort) + 1) << fractionBits(sort);
+            return sort == FLOAT ? 0x7F800000L : 0x7FF0000000000000L;
         }
 
         static long one(int sort) {
-            return (long) bias(sort) << fractionBits(sort);
+            return sort == FLOAT ? 0x3F800000L : 0x3FF0000000000000L;
+        }
+
+        static long half(int sort) {
+            return sort == FLOAT ? 0x3F000000L : 0x3FE0000000000000L;
         }
 
         static long unsigned(int sort, long v) {
@@ -484,8 +494,8 @@ public final class StretchDesk {
         }
 
         static long signed(int sort, long v, boolean isNegative) {
-            long bits = unsigned(sort, v);
-            return isNegative ? bits | ~unsignedMask(sort) : bits;
+            long mask = unsignedMask(sort);
+            return isNegative ? v | ~mask : v & mask;
         }
 
         static long unit(int sort, long v) {
@@ -493,13 +503,13 @@ public final class StretchDesk {
         }
 
         static long amount(int sort, long v) {
-            long bits = unsigned(sort, v);
+            long bits = v & unsignedMask(sort);
             long fraction = bits & ((1L << fractionBits(sort)) - 1);
             return bits == fraction ? fraction : fraction | (1L << fractionBits(sort));
         }
 
         static int power(int sort, long v) {
-            int exponent = (int) (unsigned(sort, v) >>> fractionBits(sort));
+            int exponent = (int) ((v & unsignedMask(sort)) >>> fractionBits(sort));
             return leastPower(sort) + Math.max(exponent - 1, 0);
         }
 
@@ -510,8 +520,7 @@ public final class StretchDesk {
                 return v;
             }
             if (bits < one(sort)) {
-                long half = one(sort) - (1L << fractionBits(sort));
-                boolean isAway = way == NEAREST ? bits > half : isAwayFromZero(v, way);
+                boolean isAway = way == NEAREST ? bits > half(sort) : isAwayFromZero(v, way);
                 return signed(sort, isAway ? one(sort) : 0, v < 0);
             }
             long wholeOne = 1L << -power(sort, v);
@@ -542,7 +551,7 @@ public final class StretchDesk {
             if (amount == 0) {
                 return signed(sort, 0, isNegative);
             }
-            int width = Long.SIZE - Long.numberOfLeadingZeros(amount);
+            int width = LONG_BITS - Long.numberOfLeadingZeros(amount);
             int keptPower = Math.max(leastPower(sort), power + width - fractionBits(sort) - 1);
             long kept = scaled(amount, width, keptPower - power);
             // Added, not joined: the top bit of what is kept is the exponent's last 1, which the least ones lack.
@@ -568,16 +577,16 @@ public final class StretchDesk {
         /** What is towards zero, as an INT or LONG; what is too far off comes to the end of that sort. */
         static long cut(int sort, long v, int newSort) {
             long whole = cutToLong(sort, v);
-            return newSort == INT ? Math.max(Integer.MIN_VALUE, Math.min(whole, Integer.MAX_VALUE)) : whole;
+            return newSort == INT ? Math.max(LEAST_INT, Math.min(whole, GREATEST_INT)) : whole;
         }
 
         private static long cutToLong(int sort, long v) {
             int power = power(sort, v);
             // From here on up the amount has all its bits, so that it goes beyond 63 of them, as infinity does.
-            if (power > Long.SIZE - 2 - fractionBits(sort)) {
-                return v < 0 ? Long.MIN_VALUE : Long.MAX_VALUE;
+            if (power > LONG_BITS - 2 - fractionBits(sort)) {
+                return v < 0 ? LEAST_LONG : GREATEST_LONG;
             }
-            if (power <= -Long.SIZE) {
+            if (power <= -LONG_BITS) {
                 return 0;
             }
             long amount = amount(sort, v);

@@ -92,7 +92,7 @@ public final class LanguageTest {
         }
         due("the program divides nowhere", code.indexOf('/') < 0 && code.indexOf('%') < 0);
         Matcher library = Pattern.compile("\\b(Math|Long|Integer|Arrays)\\.(\\w+)").matcher(code);
-        Set<String> known = Set.of("min", "max", "fill", "numberOfLeadingZeros", "MIN_VALUE", "MAX_VALUE", "SIZE");
+        Set<String> known = Set.of("min", "max", "fill", "numberOfLeadingZeros");
         while (library.find()) {
             due("the library's " + library.group(), known.contains(library.group(2)));
         }
