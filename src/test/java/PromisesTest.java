@@ -558,7 +558,7 @@ public final class PromisesTest {
         due("state", x.state(), 0);
         x.low(9);
         due("state", x.state(), -3);
-        due("done, answering 0", x.alike(0, 0), 1);
+        due("done", x.alike(0, 0), 1);
         due("state", x.state(), 0);
         x.run(0, 99);
         due("state", x.state(), -5);
